@@ -4,6 +4,7 @@ public final class ImagesTest {
 
     public static void main(String[] args) {
         keepAndGoBack();
+        goBackBehindAnotherRun();
         imagesAreApart();
         textAndJournalStay();
         refusals();
@@ -44,6 +45,23 @@ public final class ImagesTest {
         RaceWatch twin = busy("f1;f2;r0;t1(r0;l0(w1;)p1;)t2(w0;)w1;", 5);
         twin.drift(40, 31);
         same("it goes on alike", Seen.sectionOne(x), Seen.sectionOne(twin));
+    }
+
+    /** Another run lies over all rows of the one that was kept. */
+    private static void goBackBehindAnotherRun() {
+        RaceWatch x = new RaceWatch();
+        due.runs(x, "f3;f2;t3(r1;)t2(r1;l2(w2;p1;))r1;t3(w2;)l1(w3;)t2(w3;)", 14, -1);
+        String kept = Seen.sectionOne(x);
+        due.is("SHARED", x.cell(1, 4), 1);
+        x.keep(1);
+        x.anew();
+        due.run(x, "w0;w1;w2;w3;f1;l0(w0;t1(l2(w0;w1;w2;w3;)))p0;t1(g0;)j1;");
+        x.jump(0, 100);
+        for (int i = x.told(0); i < 160; i++) {
+            x.event(0, i % 2, 1 + i % 3);
+        }
+        due.is("goBack(1)", x.goBack(1) == x.told(0) ? 1 : 0, 1);
+        same("all as it was", Seen.sectionOne(x), kept);
     }
 
     private static void imagesAreApart() {

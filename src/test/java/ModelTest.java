@@ -23,6 +23,9 @@ public final class ModelTest {
         long asked = 0;
         for (int seed = first; seed < first + runs; seed++) {
             ModelTest run = new ModelTest(seed);
+            if (seed % 4 == 0) {
+                run.fillUp();
+            }
             run.go(20 + seed % 7 * 70);
             asked += run.calls.size();
             if (run.wrong) {
@@ -34,7 +37,22 @@ public final class ModelTest {
         System.out.println("ModelTest: " + runs + " runs, " + asked + " answers, 0 wrong");
     }
 
-    private void go(int most) {
+    /** So that what comes behind is soon FULL. */
+    private void fillUp() {
+        for (int thread = 1; thread < 4; thread++) {
+            same("event(0, 6, " + thread + ")", x.event(0, 6, thread), model.event(0, 6, thread));
+        }
+        int most = 130 + random.nextInt(30);
+        for (int e = 3; e < most; e++) {
+            int thread = random.nextInt(4);
+            int sort = random.nextInt(8) == 0 ? 4 + random.nextInt(2) : random.nextInt(2);
+            int with = random.nextInt(2);
+            same("event(" + thread + ", " + sort + ", " + with + ")", x.event(thread, sort, with), model.event(thread, sort, with));
+        }
+    }
+
+    private void go(int more) {
+        int most = calls.size() + more;
         int style = random.nextInt(4);
         while (calls.size() < most && !wrong) {
             int lot = random.nextInt(100);

@@ -231,6 +231,8 @@ public final class RacesTest {
         due.is("guard(0)", x.guard(0), 1);
         x.event(1, 0, 0);
         due.is("guard(0)", x.guard(0), 0);
+        due.runs(x, "l2(w3;)l2(l1(w3;))", 8, -1);
+        due.is("guard(3), more LOCKS later", x.guard(3), 4);
         due.is("guard(4)", x.guard(4), RaceWatch.UNKNOWN);
         due.is("guard(-1)", x.guard(-1), RaceWatch.UNKNOWN);
     }

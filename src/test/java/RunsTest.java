@@ -56,6 +56,7 @@ public final class RunsTest {
         String first = Seen.sectionOne(new RaceWatch());
         RaceWatch x = new RaceWatch();
         due.is("anew() at first", x.anew(), 0);
+        due.run(x, "p0;p1;l0()l1()l2()");
         x.drift(40, 3);
         x.drift(40, 4);
         x.event(0, 2, 2);
