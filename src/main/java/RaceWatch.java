@@ -787,10 +787,10 @@ public final class RaceWatch {
             openRegions = 0;
             depth = 0;
             int fault = NO_FAULT;
-            int told = 0;
-            while (told < length && fault == NO_FAULT) {
-                int letter = letters[told];
-                told++;
+            int next = 0;
+            while (next < length && fault == NO_FAULT) {
+                int letter = letters[next];
+                next++;
                 if (letter == ' ') {
                     continue;
                 }
@@ -805,7 +805,7 @@ public final class RaceWatch {
                     fault = tellSign(letter);
                 }
             }
-            faultAt = fault == NO_FAULT ? NONE : told - 1;
+            faultAt = fault == NO_FAULT ? NONE : next - 1;
             if (fault == NO_FAULT && (due != ITEM_DUE || depth > 0)) {
                 fault = CANNOT_STAND;
                 faultAt = length;
