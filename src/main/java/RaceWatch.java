@@ -161,7 +161,8 @@ public final class RaceWatch {
 
     public int ahead(int e, int f) {
         Log log = world.log;
-        if (!isIn(e, log.count) || !isIn(f, log.count)) {
+        // two EVENTS are asked for, so one named twice is UNKNOWN too
+        if (!isIn(e, log.count) || !isIn(f, log.count) || e == f) {
             return UNKNOWN;
         }
         return log.isAhead(e, f) ? 1 : 0;

@@ -486,8 +486,8 @@ final class Model {
     // ---- races
 
     int ahead(int e, int f) {
-        boolean known = in(e, 0, count() - 1) && in(f, 0, count() - 1);
-        return !known ? RaceWatch.UNKNOWN : found.ahead(e, f) ? 1 : 0;
+        boolean areTwo = e != f && in(e, 0, count() - 1) && in(f, 0, count() - 1);
+        return !areTwo ? RaceWatch.UNKNOWN : found.ahead(e, f) ? 1 : 0;
     }
 
     int races(int cell, int kind) {

@@ -33,7 +33,11 @@ public final class RacesTest {
         due.is("behind PUT: ahead(12, 14)", x.ahead(12, 14), 0);
         due.is("WAIT: ahead(12, 15)", x.ahead(12, 15), 1);
         due.is("not later: ahead(3, 0)", x.ahead(3, 0), 0);
-        due.is("not later: ahead(3, 3)", x.ahead(3, 3), 0);
+        due.is("not later, same THREAD: ahead(2, 0)", x.ahead(2, 0), 0);
+        due.is("the latest and the one ahead of it: ahead(15, 14)", x.ahead(15, 14), 0);
+        for (int e = 0; e < 16; e++) {
+            due.is("one twice: ahead(" + e + ", " + e + ")", x.ahead(e, e), RaceWatch.UNKNOWN);
+        }
     }
 
     private static void aheadRefusals() {
@@ -47,6 +51,9 @@ public final class RacesTest {
         due.is("ahead(-1, 0)", x.ahead(-1, 0), RaceWatch.UNKNOWN);
         due.is("ahead(0, -1)", x.ahead(0, -1), RaceWatch.UNKNOWN);
         due.is("ahead(160, 2147483647)", x.ahead(160, 2147483647), RaceWatch.UNKNOWN);
+        due.is("ahead(0, 0), one twice", x.ahead(0, 0), RaceWatch.UNKNOWN);
+        due.is("ahead(1, 1), one twice", x.ahead(1, 1), RaceWatch.UNKNOWN);
+        due.is("ahead(1, 0), not later", x.ahead(1, 0), 0);
     }
 
     private static void kindsOfRaces() {
