@@ -1,6 +1,7 @@
 /** Compares answers with those that are due, and ends a test with exit code 1 if one was wrong. */
 final class Due {
     private final String test;
+    private String sentence = "";
     private int asked = 0;
     private int wrong = 0;
 
@@ -8,16 +9,25 @@ final class Due {
         this.test = test;
     }
 
+    /** The words of the document for which the next answers stand. */
+    void sentence(String words) {
+        sentence = " (\"" + words + "\")";
+    }
+
     void is(String call, int got, int want) {
         asked++;
         if (got != want) {
             wrong++;
-            System.out.println(test + ": " + call + " answered " + got + ", due is " + want);
+            System.out.println(test + ": " + call + " answered " + got + ", due is " + want + sentence);
         }
     }
 
+    void yes(String what, boolean holds) {
+        is(what, holds ? 1 : 0, 1);
+    }
+
     /** Feeds a text and runs it. */
-    int run(RaceWatch x, String text) {
+    int run(Watch x, String text) {
         for (int i = 0; i < text.length(); i++) {
             x.feed(text.charAt(i));
         }
@@ -25,7 +35,7 @@ final class Due {
     }
 
     /** A text that is run, what it answers and where its fault is. */
-    void runs(RaceWatch x, String text, int want, int faultAt) {
+    void runs(Watch x, String text, int want, int faultAt) {
         is("run of \"" + text + "\"", run(x, text), want);
         is("fault() of \"" + text + "\"", x.fault(), faultAt);
         is("told(6) behind \"" + text + "\"", x.told(6), 0);

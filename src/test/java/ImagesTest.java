@@ -11,8 +11,8 @@ public final class ImagesTest {
         due.end();
     }
 
-    private static RaceWatch busy(String text, int seed) {
-        RaceWatch x = new RaceWatch();
+    private static Watch busy(String text, int seed) {
+        Watch x = new Watch();
         due.run(x, text);
         x.drift(40, seed);
         x.drift(40, seed + 1);
@@ -24,7 +24,7 @@ public final class ImagesTest {
     }
 
     private static void keepAndGoBack() {
-        RaceWatch x = busy("f1;f2;r0;t1(r0;l0(w1;)p1;)t2(w0;)w1;", 5);
+        Watch x = busy("f1;f2;r0;t1(r0;l0(w1;)p1;)t2(w0;)w1;", 5);
         String kept = Seen.sectionOne(x);
         int count = x.told(0);
         due.is("keep(0)", x.keep(0), count);
@@ -42,14 +42,14 @@ public final class ImagesTest {
         due.is("goBack(0)", x.goBack(0), count);
         same("behind anew()", Seen.sectionOne(x), kept);
         x.drift(40, 31);
-        RaceWatch twin = busy("f1;f2;r0;t1(r0;l0(w1;)p1;)t2(w0;)w1;", 5);
+        Watch twin = busy("f1;f2;r0;t1(r0;l0(w1;)p1;)t2(w0;)w1;", 5);
         twin.drift(40, 31);
         same("it goes on alike", Seen.sectionOne(x), Seen.sectionOne(twin));
     }
 
     /** Another run lies over all rows of the one that was kept. */
     private static void goBackBehindAnotherRun() {
-        RaceWatch x = new RaceWatch();
+        Watch x = new Watch();
         due.runs(x, "f3;f2;t3(r1;)t2(r1;l2(w2;p1;))r1;t3(w2;)l1(w3;)t2(w3;)", 14, -1);
         String kept = Seen.sectionOne(x);
         due.is("SHARED", x.cell(1, 4), 1);
@@ -65,7 +65,7 @@ public final class ImagesTest {
     }
 
     private static void imagesAreApart() {
-        RaceWatch x = new RaceWatch();
+        Watch x = new Watch();
         due.is("keep(0), empty", x.keep(0), 0);
         due.is("goBack(1)", x.goBack(1), RaceWatch.NOT);
         x.event(0, 1, 0);
@@ -84,7 +84,7 @@ public final class ImagesTest {
     }
 
     private static void textAndJournalStay() {
-        RaceWatch x = new RaceWatch();
+        Watch x = new Watch();
         due.runs(x, "l0(r0;)", 3, -1);
         x.keep(0);
         due.runs(x, "l1(w0;)x", -11, 7);
@@ -97,7 +97,7 @@ public final class ImagesTest {
     }
 
     private static void refusals() {
-        RaceWatch x = busy("f1;w0;t1(w0;)", 3);
+        Watch x = busy("f1;w0;t1(w0;)", 3);
         x.keep(0);
         String before = Seen.all(x);
         for (int i : new int[] {-1, 2, 2147483647, -2147483648}) {

@@ -5,10 +5,12 @@ import java.util.Random;
 /** Promises 1 to 22 over many runs of calls: RaceWatch must answer as the Model does. */
 public final class ModelTest {
     private static final int RUNS = 1500;
+    /** A turn that feeds no text makes fewer calls than that. */
+    private static final int CALLS_OF_A_TURN = 8;
     private static final int[] FAR = {-2147483648, -1000000001, -1, 160, 1000000, 2147483646, 2147483647};
 
     private final Random random;
-    private final RaceWatch x = new RaceWatch();
+    private final Watch x = new Watch();
     private final Model model = new Model();
     private final List<String> calls = new ArrayList<>();
     private boolean wrong = false;
@@ -54,7 +56,7 @@ public final class ModelTest {
     private void go(int more) {
         int most = calls.size() + more;
         int style = random.nextInt(4);
-        while (calls.size() < most && !wrong) {
+        while (calls.size() < most && x.left() >= CALLS_OF_A_TURN && !wrong) {
             int lot = random.nextInt(100);
             if (lot < 25) {
                 eventOfStyle(style);
@@ -137,7 +139,11 @@ public final class ModelTest {
         StringBuilder text = new StringBuilder();
         items(text, random.nextInt(4), random.nextInt(30) == 0 ? 60 : 6);
         spoil(text);
-        for (int i = 0; i < Math.min(text.length(), 245); i++) {
+        int letters = Math.min(text.length(), 245);
+        if (letters + CALLS_OF_A_TURN > x.left()) {
+            return;
+        }
+        for (int i = 0; i < letters; i++) {
             int letter = text.charAt(i);
             int got = x.feed(letter);
             int want = model.feed(letter);

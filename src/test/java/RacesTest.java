@@ -20,7 +20,7 @@ public final class RacesTest {
     }
 
     private static void whatIsAhead() {
-        RaceWatch x = new RaceWatch();
+        Watch x = new Watch();
         due.runs(x, "w0;f1;w0;t1(r0;l0(r0;))w0;l0(w0;)t1(p1;w0;)g1;w0;j1;", 16, -1);
         due.is("FORK: ahead(0, 3)", x.ahead(0, 3), 1);
         due.is("FORK itself: ahead(1, 3)", x.ahead(1, 3), 1);
@@ -41,7 +41,7 @@ public final class RacesTest {
     }
 
     private static void aheadRefusals() {
-        RaceWatch x = new RaceWatch();
+        Watch x = new Watch();
         due.is("ahead(0, 0)", x.ahead(0, 0), RaceWatch.UNKNOWN);
         x.event(0, 0, 0);
         x.event(0, 0, 0);
@@ -57,7 +57,7 @@ public final class RacesTest {
     }
 
     private static void kindsOfRaces() {
-        RaceWatch x = new RaceWatch();
+        Watch x = new Watch();
         due.runs(x, "f1;w0;t1(w0;)w1;t1(r1;)r2;t1(w2;)r3;t1(r3;)", 9, -1);
         due.row("races(0, ..)", Seen.races(x, 0), 1, 0, 0, 1);
         due.row("races(1, ..)", Seen.races(x, 1), 0, 1, 0, 1);
@@ -73,7 +73,7 @@ public final class RacesTest {
     }
 
     private static void racesInOrder() {
-        RaceWatch x = new RaceWatch();
+        Watch x = new Watch();
         due.runs(x, "f1;f2;r0;w0;t1(r0;w0;)t2(w0;r1;)", 8, -1);
         int[][] want = {{3, 4, 1}, {2, 5, 2}, {3, 5, 0}, {2, 6, 2}, {3, 6, 0}, {4, 6, 2}, {5, 6, 0}, {-1, -1, -1}};
         for (int k = 0; k < want.length; k++) {
@@ -85,7 +85,7 @@ public final class RacesTest {
 
     /** The CELL keeps just the last ones; RACES count all pairs. */
     private static void racesByPairsGoOn() {
-        RaceWatch x = new RaceWatch();
+        Watch x = new Watch();
         due.runs(x, "f1;w0;w0;w0;t1(w0;w0;)", 6, -1);
         due.is("races(0, 0)", x.races(0, 0), 6);
         due.is("told(5)", x.told(5), 6);
@@ -100,7 +100,7 @@ public final class RacesTest {
     }
 
     private static void raceRefusals() {
-        RaceWatch x = new RaceWatch();
+        Watch x = new Watch();
         due.runs(x, "f1;w0;t1(w0;)", 3, -1);
         for (int cell : new int[] {-1, 4, 2147483647, -2147483648}) {
             due.is("races(" + cell + ", 3)", x.races(cell, 3), RaceWatch.UNKNOWN);
@@ -121,7 +121,7 @@ public final class RacesTest {
     }
 
     private static void cellKeepsWriteAndRead() {
-        RaceWatch x = new RaceWatch();
+        Watch x = new Watch();
         x.jump(0, 4);
         x.event(0, 1, 2);
         due.row("WRITE", Seen.cell(x, 2), 0, 5, -1, 0, 0, 0, -1, -1);
@@ -139,7 +139,7 @@ public final class RacesTest {
     }
 
     private static void cellBecomesShared() {
-        RaceWatch x = new RaceWatch();
+        Watch x = new Watch();
         due.runs(x, "f1;f2;r1;t1(r1;)", 4, -1);
         due.row("SHARED", Seen.cell(x, 1), -1, 0, -1, 0, 1, 1, -1, -1);
         due.row("both numbers", Seen.shared(x, 1), 3, 1, 0, 0);
@@ -160,7 +160,7 @@ public final class RacesTest {
     }
 
     private static void firstRace() {
-        RaceWatch x = new RaceWatch();
+        Watch x = new Watch();
         due.runs(x, "f1;f2;r0;t1(r0;)t2(w0;)", 5, -1);
         due.is("cell(0, 6), any number of those SHARED", x.cell(0, 6), 4);
         due.is("cell(0, 7)", x.cell(0, 7), 2);
@@ -177,7 +177,7 @@ public final class RacesTest {
     }
 
     private static void cellRefusals() {
-        RaceWatch x = new RaceWatch();
+        Watch x = new Watch();
         due.is("cell(4, 0)", x.cell(4, 0), RaceWatch.UNKNOWN);
         due.is("cell(-1, 8)", x.cell(-1, 8), RaceWatch.UNKNOWN);
         due.is("cell(0, 8)", x.cell(0, 8), RaceWatch.OUTSIDE);
@@ -192,7 +192,7 @@ public final class RacesTest {
     }
 
     private static void whatWouldRace() {
-        RaceWatch x = new RaceWatch();
+        Watch x = new Watch();
         due.runs(x, "f1;w0;r1;r2;t1(r2;)w3;r3;", 7, -1);
         String before = Seen.all(x);
         due.is("would(1, 0, true)", x.would(1, 0, true), 0);
@@ -213,7 +213,7 @@ public final class RacesTest {
     }
 
     private static void wouldRefusals() {
-        RaceWatch x = new RaceWatch();
+        Watch x = new Watch();
         due.is("would(4, 0, true)", x.would(4, 0, true), RaceWatch.UNKNOWN);
         due.is("would(-1, 0, false)", x.would(-1, 0, false), RaceWatch.UNKNOWN);
         due.is("would(0, 4, true)", x.would(0, 4, true), RaceWatch.UNKNOWN);
@@ -226,7 +226,7 @@ public final class RacesTest {
     }
 
     private static void guards() {
-        RaceWatch x = new RaceWatch();
+        Watch x = new Watch();
         due.is("guard(0), no access", x.guard(0), 7);
         due.runs(x, "f1;l0(l1(l2(w0;)r0;w1;t1(w2;)))", 11, -1);
         due.is("guard(0)", x.guard(0), 3);

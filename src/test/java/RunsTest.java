@@ -23,7 +23,7 @@ public final class RunsTest {
     }
 
     private static void aNewObject() {
-        RaceWatch x = new RaceWatch();
+        Watch x = new Watch();
         due.is("told(0)", x.told(0), 0);
         due.is("told(1)", x.told(1), 1);
         for (int what = 2; what <= 8; what++) {
@@ -53,8 +53,8 @@ public final class RunsTest {
     }
 
     private static void anewSetsAllAsAtFirst() {
-        String first = Seen.sectionOne(new RaceWatch());
-        RaceWatch x = new RaceWatch();
+        String first = Seen.sectionOne(new Watch());
+        Watch x = new Watch();
         due.is("anew() at first", x.anew(), 0);
         due.run(x, "p0;p1;l0()l1()l2()");
         x.drift(40, 3);
@@ -71,7 +71,7 @@ public final class RunsTest {
     }
 
     private static void anewLeavesTextJournalAndImages() {
-        RaceWatch x = new RaceWatch();
+        Watch x = new Watch();
         due.runs(x, "l1(r0;)w9", -12, 8);
         x.keep(1);
         x.feed('r');
@@ -88,7 +88,7 @@ public final class RunsTest {
     }
 
     private static void eventsMoveClocks() {
-        RaceWatch x = new RaceWatch();
+        Watch x = new Watch();
         due.is("FORK", x.event(0, 6, 2), 0);
         due.row("clock of 0", Seen.clock(x, 0, 0), 2, 0, 0, 0);
         due.row("clock of 2", Seen.clock(x, 0, 2), 1, 0, 1, 0);
@@ -115,7 +115,7 @@ public final class RunsTest {
     }
 
     private static void eventsOfLocks() {
-        RaceWatch x = new RaceWatch();
+        Watch x = new Watch();
         x.event(0, 6, 1);
         due.is("TAKE", x.event(0, 2, 1), 1);
         due.is("holder(1)", x.holder(1), 0);
@@ -139,7 +139,7 @@ public final class RunsTest {
     }
 
     private static void eventsOfThreads() {
-        RaceWatch x = new RaceWatch();
+        Watch x = new Watch();
         due.is("READ by a NEW one", x.event(1, 0, 0), RaceWatch.NOT);
         due.is("WAIT for a NEW one", x.event(0, 7, 1), RaceWatch.NOT);
         x.event(0, 6, 1);
@@ -159,14 +159,14 @@ public final class RunsTest {
         due.is("told(2)", x.told(2), 9);
     }
 
-    private static void refused(RaceWatch x, int want, int thread, int sort, int with) {
+    private static void refused(Watch x, int want, int thread, int sort, int with) {
         String before = Seen.all(x);
         due.is("event(" + thread + ", " + sort + ", " + with + ")", x.event(thread, sort, with), want);
         due.is("nothing changed", Seen.all(x).equals(before) ? 1 : 0, 1);
     }
 
     private static void eventsThatAreRefused() {
-        RaceWatch x = new RaceWatch();
+        Watch x = new Watch();
         due.run(x, "f1;w0;t1(w0;l1(r1;)p0;)");
         int[] bounds = {4, 4, 3, 3, 2, 2, 4, 4};
         int[] far = {-2147483648, -1, 2147483647};
@@ -192,7 +192,7 @@ public final class RunsTest {
     }
 
     private static void orderOfRefusals() {
-        RaceWatch x = new RaceWatch();
+        Watch x = new Watch();
         x.event(0, 6, 1);
         x.jump(0, GREATEST - 2);
         for (int i = x.told(0); i < 160; i++) {
@@ -208,7 +208,7 @@ public final class RunsTest {
     }
 
     private static void eventsThatAreTooMany() {
-        RaceWatch x = new RaceWatch();
+        Watch x = new Watch();
         for (int e = 0; e < 160; e++) {
             due.is("event " + e, x.event(0, e % 2, e % 4), e);
         }
@@ -220,7 +220,7 @@ public final class RunsTest {
     }
 
     private static void clocksThatAreTooGreat() {
-        RaceWatch x = new RaceWatch();
+        Watch x = new Watch();
         x.event(0, 6, 1);
         x.event(0, 2, 0);
         x.jump(0, GREATEST - 3);
@@ -239,7 +239,7 @@ public final class RunsTest {
     }
 
     private static void jumps() {
-        RaceWatch x = new RaceWatch();
+        Watch x = new Watch();
         due.is("jump(0, 1)", x.jump(0, 1), 2);
         due.is("jump(0, 40)", x.jump(0, 40), 42);
         due.row("clock of 0", Seen.clock(x, 0, 0), 42, 0, 0, 0);
@@ -250,7 +250,7 @@ public final class RunsTest {
     }
 
     private static void jumpsThatAreRefused() {
-        RaceWatch x = new RaceWatch();
+        Watch x = new Watch();
         String first = Seen.all(x);
         due.is("jump(-1, 1)", x.jump(-1, 1), RaceWatch.UNKNOWN);
         due.is("jump(4, 0)", x.jump(4, 0), RaceWatch.UNKNOWN);
@@ -267,8 +267,8 @@ public final class RunsTest {
     }
 
     private static void drifts() {
-        RaceWatch x = new RaceWatch();
-        RaceWatch byHand = new RaceWatch();
+        Watch x = new Watch();
+        Watch byHand = new Watch();
         long lot = 0;
         for (int seed = 1; seed <= 12; seed++) {
             lot = seed * 83333L;
@@ -285,13 +285,13 @@ public final class RunsTest {
             due.is("drift(9, " + seed * 83333 + ")", x.drift(9, seed * 83333), came);
         }
         due.is("all as by hand", Seen.all(x).equals(Seen.all(byHand)) ? 1 : 0, 1);
-        RaceWatch known = new RaceWatch();
+        Watch known = new Watch();
         due.is("drift(40, 7)", known.drift(40, 7), 11);
         due.is("drift(40, 99)", known.drift(40, 99), 12);
     }
 
     private static void driftsThatAreRefused() {
-        RaceWatch x = new RaceWatch();
+        Watch x = new Watch();
         String first = Seen.all(x);
         int[][] wrong = {{0, 1}, {41, 1}, {-1, 1}, {1, 0}, {1, 1000000}, {1, -7}, {2147483647, 2147483647}};
         for (int[] pair : wrong) {
@@ -303,7 +303,7 @@ public final class RunsTest {
     }
 
     private static void driftStopsAtFull() {
-        RaceWatch x = new RaceWatch();
+        Watch x = new Watch();
         for (int i = 0; i < 158; i++) {
             x.event(0, 0, 0);
         }

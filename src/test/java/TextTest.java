@@ -22,7 +22,7 @@ public final class TextTest {
     }
 
     private static void feeding() {
-        RaceWatch x = new RaceWatch();
+        Watch x = new Watch();
         due.is("feed(-1)", x.feed(-1), RaceWatch.OUTSIDE);
         due.is("feed(256)", x.feed(256), RaceWatch.OUTSIDE);
         due.is("feed(0)", x.feed(0), 1);
@@ -42,7 +42,7 @@ public final class TextTest {
     }
 
     private static void runsWithoutFault() {
-        RaceWatch x = new RaceWatch();
+        Watch x = new Watch();
         due.is("fault() ahead of all runs", x.fault(), RaceWatch.NONE);
         due.runs(x, "", 0, -1);
         due.runs(x, "   ", 0, -1);
@@ -63,7 +63,7 @@ public final class TextTest {
     }
 
     private static void whoIsAtIt() {
-        RaceWatch x = new RaceWatch();
+        Watch x = new Watch();
         due.runs(x, "f1;f2;t1(r0;t2(r0;l0(t1(r1;)r2;)r0;)r0;)r0;", 11, -1);
         int[] threads = {0, 0, 1, 2, 2, 1, 2, 2, 2, 1, 0};
         int[] sorts = {6, 6, 0, 0, 2, 0, 0, 3, 0, 0, 0};
@@ -81,7 +81,7 @@ public final class TextTest {
     }
 
     private static void lettersThatCannotStand() {
-        RaceWatch x = new RaceWatch();
+        Watch x = new Watch();
         String[] texts = {"x", ";", "(", ")", "0", "r", "r;", "ra", "r)", "r0", "r0)", "r0r", "r00;", "r0;;", "r0;)", "t", "t0",
             "t0;", "t0(", "t0(r0;", "t0(r0", "t0)", "l0", "l0;", "l0(r0;", "l0()))", "R0;", "r0 ", "l0(t0()", "f", "l", "t0(x)", "r-1;",
             "  x", "r 0 ;  y", "t00("};
@@ -97,7 +97,7 @@ public final class TextTest {
     }
 
     private static void numbersOutOfBounds() {
-        RaceWatch x = new RaceWatch();
+        Watch x = new Watch();
         String letters = "rwpgfjtl";
         int[] bounds = {4, 4, 2, 2, 4, 4, 4, 3};
         for (int i = 0; i < 8; i++) {
@@ -112,7 +112,7 @@ public final class TextTest {
     }
 
     private static void eventsThatCannotBe() {
-        RaceWatch x = new RaceWatch();
+        Watch x = new Watch();
         due.runs(x, "f0;", -14, 1);
         due.runs(x, "j0;", -14, 1);
         due.runs(x, "j1;", -14, 1);
@@ -136,8 +136,8 @@ public final class TextTest {
     }
 
     /** An object with n EVENTS, all READ of CELL 0 by 0. */
-    private static RaceWatch withReads(int n) {
-        RaceWatch x = new RaceWatch();
+    private static Watch withReads(int n) {
+        Watch x = new Watch();
         for (int i = 0; i < n; i++) {
             x.event(0, 0, 0);
         }
@@ -151,7 +151,7 @@ public final class TextTest {
         due.runs(withReads(160), "t0()", 0, -1);
         due.runs(withReads(159), "l0()", -13, 1);
         due.runs(withReads(158), "l0()", 2, -1);
-        RaceWatch x = withReads(158);
+        Watch x = withReads(158);
         due.runs(x, "l0(r0;)", -13, 4);
         due.is("told(0)", x.told(0), 160);
         due.is("told(3)", x.told(3), 0);
@@ -172,15 +172,15 @@ public final class TextTest {
         due.runs(withReads(160), "j1;", -13, 1);
         due.runs(withReads(160), "t1(", -14, 1);
         due.runs(withReads(160), "rx", -11, 1);
-        RaceWatch x = withReads(158);
+        Watch x = withReads(158);
         due.runs(x, "l0(l0(", -13, 4);
-        RaceWatch great = withReads(160);
+        Watch great = withReads(160);
         great.jump(0, GREATEST - 1);
         due.runs(great, "p0;", -13, 1);
     }
 
     private static void whatCameAheadStays() {
-        RaceWatch x = new RaceWatch();
+        Watch x = new Watch();
         due.runs(x, "f1;r0;t1(w2;l2(p1;l1(x", -11, 21);
         due.is("told(0)", x.told(0), 8);
         int[] sorts = {6, 0, 1, 2, 4, 2, 3, 3};
@@ -206,7 +206,7 @@ public final class TextTest {
     }
 
     private static void leaveWithoutStep() {
-        RaceWatch x = new RaceWatch();
+        Watch x = new Watch();
         x.jump(0, GREATEST - 2);
         due.runs(x, "l0(r0;)", 3, -1);
         due.is("clock(0, 0, 0)", x.clock(0, 0, 0), GREATEST);
@@ -223,25 +223,24 @@ public final class TextTest {
     }
 
     private static void nestedDeeply() {
-        RaceWatch x = new RaceWatch();
         StringBuilder open = new StringBuilder();
         StringBuilder whole = new StringBuilder();
         for (int i = 0; i < 80; i++) {
             open.append("t0(");
         }
-        due.runs(x, open.toString(), -11, 240);
+        due.runs(new Watch(), open.toString(), -11, 240);
         for (int i = 0; i < 60; i++) {
             whole.append("t0(");
         }
         for (int i = 0; i < 60; i++) {
             whole.append(")");
         }
-        due.runs(x, whole.toString(), 0, -1);
-        due.runs(x, whole.substring(0, 239), -11, 239);
+        due.runs(new Watch(), whole.toString(), 0, -1);
+        due.runs(new Watch(), whole.substring(0, 239), -11, 239);
     }
 
     private static void journalOfRegions() {
-        RaceWatch x = new RaceWatch();
+        Watch x = new Watch();
         x.event(0, 2, 2);
         x.event(0, 3, 2);
         due.is("by hand there is no REGION", x.told(7), 0);
@@ -265,7 +264,7 @@ public final class TextTest {
     }
 
     private static void journalLosesTheOldest() {
-        RaceWatch x = new RaceWatch();
+        Watch x = new Watch();
         due.runs(x, "l2()", 2, -1);
         for (int i = 0; i < 11; i++) {
             due.runs(x, "l1()", 2, -1);
@@ -283,7 +282,7 @@ public final class TextTest {
     }
 
     private static void journalRefusals() {
-        RaceWatch x = new RaceWatch();
+        Watch x = new Watch();
         due.is("journal(0, 0)", x.journal(0, 0), RaceWatch.NONE);
         due.runs(x, "l2()", 2, -1);
         due.is("journal(0, 2)", x.journal(0, 2), RaceWatch.OUTSIDE);

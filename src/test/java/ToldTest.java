@@ -14,7 +14,7 @@ public final class ToldTest {
     }
 
     private static void toldOfAll() {
-        RaceWatch x = new RaceWatch();
+        Watch x = new Watch();
         due.runs(x, "f1;f2;f3;t1(r0;r2;)t2(r0;r2;w3;)r0;t3(w3;)j1;l0(l1(x", -11, 51);
         x.event(2, 2, 2);
         x.event(3, 2, 0);
@@ -42,7 +42,7 @@ public final class ToldTest {
      * though what the CELL keeps shows none.
      */
     private static void toldCellsWithRaceByPairs() {
-        RaceWatch x = new RaceWatch();
+        Watch x = new Watch();
         due.runs(x, "f1;f2;", 2, -1);
         x.jump(1, 2147483646);
         due.runs(x, "t1(l0())t2(l0())t0(w0;p0;)t1(g0;w0;)t2(w0;)", 9, -1);
@@ -54,7 +54,7 @@ public final class ToldTest {
     }
 
     private static void clocks() {
-        RaceWatch x = new RaceWatch();
+        Watch x = new Watch();
         due.runs(x, "f3;p1;l2(r0;)", 5, -1);
         due.row("clock of 0", Seen.clock(x, 0, 0), 4, 0, 0, 0);
         due.row("clock of 3", Seen.clock(x, 0, 3), 1, 0, 0, 1);
@@ -76,7 +76,7 @@ public final class ToldTest {
     }
 
     private static void eventsKeepClocks() {
-        RaceWatch x = new RaceWatch();
+        Watch x = new Watch();
         x.event(0, 6, 1);
         x.event(1, 1, 3);
         x.event(1, 2, 1);
@@ -103,7 +103,7 @@ public final class ToldTest {
     }
 
     private static void eventsKeepLocks() {
-        RaceWatch x = new RaceWatch();
+        Watch x = new Watch();
         due.runs(x, "f1;l0(l2(r0;t1(r0;l1(r0;))))r0;", 11, -1);
         int[] locks = {0, 1, 5, 5, 0, 2, 2, 0, 1, 0, 0};
         for (int e = 0; e < 11; e++) {
@@ -112,7 +112,7 @@ public final class ToldTest {
     }
 
     private static void eventRefusals() {
-        RaceWatch x = new RaceWatch();
+        Watch x = new Watch();
         due.is("eventOf(0, 0)", x.eventOf(0, 0), RaceWatch.UNKNOWN);
         x.event(0, 0, 0);
         due.is("eventOf(0, 0)", x.eventOf(0, 0), 0);
@@ -126,7 +126,7 @@ public final class ToldTest {
     }
 
     private static void holders() {
-        RaceWatch x = new RaceWatch();
+        Watch x = new Watch();
         x.event(0, 6, 2);
         x.event(0, 2, 0);
         x.event(2, 2, 2);
