@@ -16,6 +16,7 @@ public final class PromisesTest {
         promise5();
         promise6();
         promise7();
+        promise7OwnNumberAlone();
         promise8();
         promise9();
         promise10();
@@ -31,6 +32,7 @@ public final class PromisesTest {
         promise20();
         promise21();
         promise22();
+        callsUpToTheLast();
         due.end();
     }
 
@@ -226,6 +228,25 @@ public final class PromisesTest {
         due.is("one that is DONE", y.jump(1, 1), NOT);
         due.is("THREAD -1", y.jump(-1, 1), UNKNOWN);
         due.is("THREAD 4", y.jump(4, 1), UNKNOWN);
+    }
+
+    /** What others, LOCKS, SEEN CELLS, CELLS and EVENTS keep of THREAD 0 stays. */
+    private static void promise7OwnNumberAlone() {
+        due.sentence("The own number in the CLOCK of a THREAD that GOES is v more");
+        Watch x = new Watch();
+        due.runs(x, "f1;w0;r1;l0(r0;)p0;p1;t1(g0;r1;w2;)", 11, -1);
+        due.is("jump", x.jump(0, 100), 105);
+        due.row("clock of 0", Seen.clock(x, 0, 0), 105, 0, 0, 0);
+        due.row("clock of 1", Seen.clock(x, 0, 1), 3, 1, 0, 0);
+        due.row("clock of LOCK 0", Seen.clock(x, 1, 0), 2, 0, 0, 0);
+        due.row("clock of SEEN CELL 0", Seen.clock(x, 2, 0), 3, 0, 0, 0);
+        due.row("clock of SEEN CELL 1", Seen.clock(x, 2, 1), 4, 0, 0, 0);
+        due.row("CELL 0", Seen.cell(x, 0), 0, 2, 0, 2, 0, 0, NONE, NONE);
+        due.row("CELL 1", Seen.cell(x, 1), NONE, 0, 1, 1, 0, 0, NONE, NONE);
+        due.is("what an EVENT keeps", x.eventOf(1, 3), 2);
+        due.is("an EVENT behind it", x.event(0, WRITE, 2), 11);
+        due.is("what that keeps", x.eventOf(11, 3), 105);
+        due.is("LAST WRITE", x.cell(2, 1), 105);
     }
 
     private static void promise8() {
@@ -554,5 +575,26 @@ public final class PromisesTest {
             due.is("anew()", x.anew(), 3);
             due.is("goBack behind anew()", x.goBack(i), 3);
         }
+    }
+
+    private static void callsUpToTheLast() {
+        due.sentence("An object is used for at most 512 calls after it has been made");
+        Watch x = new Watch();
+        for (int e = 0; e < 160; e++) {
+            x.event(0, e % 2, e % 4);
+        }
+        while (x.left() > 4) {
+            x.told(5);
+        }
+        due.is("call 509", x.jump(0, 1), 2);
+        due.is("call 510", x.event(0, PUT, 0), FULL);
+        due.is("call 511", x.keep(1), 160);
+        due.is("call 512", x.goBack(1), 160);
+        Watch y = new Watch();
+        while (y.left() > 2) {
+            y.jump(0, 4000000);
+        }
+        due.is("call 511", y.jump(0, GREATEST), MUCH);
+        due.is("call 512", y.jump(0, 1), 510 * 4000000 + 2);
     }
 }

@@ -9,6 +9,7 @@ public final class SectionOneTest {
         threadsAtFirst();
         clocksAtFirst();
         joinedIsTheGreaterOfBoth();
+        joinedAtTheGreatest();
         stepIsOneMore();
         byAThreadThatGoes();
         takeOfALockThatNobodyHolds();
@@ -118,6 +119,18 @@ public final class SectionOneTest {
         x.event(3, GET, 1);
         due.row("GET: clock of 3", Seen.clock(x, 0, 3), 4, 21, 12, 32);
         due.row("clock of SEEN CELL 1 is left as it is", Seen.clock(x, 2, 1), 4, 21, 12, 31);
+    }
+
+    /** LEAVE without a STEP: then a SEEN CELL can have as great a number of a THREAD as the THREAD itself. */
+    private static void joinedAtTheGreatest() {
+        due.sentence("JOINED with another one: each number the greater of both.");
+        Watch x = forked(1, 2);
+        x.jump(1, States.GREATEST - 1);
+        due.runs(x, "t1(l0())t2(l0(p0;))p1;t1(g1;)", 7, -1);
+        due.row("clock of SEEN CELL 0", Seen.clock(x, 2, 0), 2, States.GREATEST, 1, 0);
+        due.row("clock of 1", Seen.clock(x, 0, 1), 3, States.GREATEST, 0, 0);
+        x.event(1, GET, 0);
+        due.row("GET: clock of 1", Seen.clock(x, 0, 1), 3, States.GREATEST, 1, 0);
     }
 
     private static void stepIsOneMore() {

@@ -19,7 +19,8 @@ public final class SectionThreeTest {
         lotsThatCannotCome();
         lotsUpToTheLastEvent();
         imagesKeepSectionOne();
-        imagesKeepOtherStates();
+        imagesKeepEachChange();
+        imagesKeepTheLastOfAll();
         imagesLeaveTheRest();
         due.end();
     }
@@ -296,7 +297,7 @@ public final class SectionThreeTest {
     }
 
     /** Each thing that section 1 has, changed by itself behind keep(). */
-    private static void imagesKeepOtherStates() {
+    private static void imagesKeepEachChange() {
         due.sentence("IMAGES 0, 1 keep all of section 1");
         int[][] changes = {{0, READ, 0}, {0, READ, 1}, {0, READ, 2}, {0, WRITE, 0}, {0, WRITE, 1}, {0, WRITE, 3}, {1, WRITE, 3}, {1, READ, 3},
             {0, TAKE, 0}, {1, LEAVE, 1}, {0, PUT, 0}, {1, PUT, 1}, {0, GET, 0}, {1, GET, 0}, {0, FORK, 3}, {1, WAIT, 0}};
@@ -319,6 +320,31 @@ public final class SectionThreeTest {
         x.jump(1, 77);
         x.goBack(0);
         due.yes("nothing of jump is left", Seen.sectionOne(x).equals(before));
+    }
+
+    /** THREAD 3, LOCK 2, CELL 3, SEEN CELL 1, and EVENT 159. */
+    private static void imagesKeepTheLastOfAll() {
+        due.sentence("IMAGES 0, 1 keep all of section 1");
+        Watch x = new Watch();
+        due.run(x, "f1;f2;f3;r3;t1(r3;)t2(r3;)t3(r3;p1;)");
+        x.event(3, TAKE, 2);
+        x.event(0, TAKE, 0);
+        for (int e = x.told(0); e < 160; e++) {
+            x.event(3, WRITE, 2);
+        }
+        String before = Seen.sectionOne(x);
+        due.row("shared(3, ..)", Seen.shared(x, 3), 4, 1, 1, 1);
+        due.is("keep", x.keep(1), 160);
+        x.anew();
+        due.run(x, "f2;f1;w2;t2(w2;r2;l1(w1;)p0;)");
+        x.event(1, TAKE, 2);
+        x.event(2, TAKE, 0);
+        due.is("goBack", x.goBack(1), 160);
+        due.yes("all is as it was", Seen.sectionOne(x).equals(before));
+        due.is("holder(2)", x.holder(2), 3);
+        due.row("shared(3, ..)", Seen.shared(x, 3), 4, 1, 1, 1);
+        due.row("SEEN CELL 1", Seen.clock(x, 2, 1), 3, 0, 0, 1);
+        due.is("the last EVENT", x.eventOf(159, 0), 3);
     }
 
     private static void imagesLeaveTheRest() {

@@ -25,6 +25,7 @@ public final class SectionTwoTest {
         notInAText();
         muchInAText();
         threadsThatDoNotGo();
+        refusedInATextChangesNothing();
         theLeastOfTheFaults();
         leaveMakesNoStep();
         whatCameAheadStays();
@@ -353,6 +354,23 @@ public final class SectionTwoTest {
         Watch y = new Watch();
         due.runs(y, "f1;t1(t0(j1;))", 2, -1);
         due.runs(y, "f2;t2(t0(j2;)r0;)", -14, 14);
+    }
+
+    private static void refusedInATextChangesNothing() {
+        due.sentence("What is refused changes nothing.");
+        Watch[] states = {States.busy(), States.great(), States.full()};
+        String[][] texts = {{"l1(", "f0;", "f1;", "f2;", "j0;", "j1;", "j2;", "j3;", "t2(", "t3(", "r4;", "w9;", "p2;", "g2;", "l3(", "f4;", "j4;", "t4(", "t1(l1(", "x"},
+            {"p0;", "p1;", "f3;", "t1(p0;", "t1(f3;"}, {"r0;", "w0;", "l0(", "p0;", "g0;", "f3;", "t1(j0;", "t1(w0;"}};
+        for (int i = 0; i < states.length; i++) {
+            states[i].run();
+            String before = Seen.sectionOne(states[i]);
+            for (String text : texts[i]) {
+                Watch x = states[i].twin();
+                due.yes("\"" + text + "\" has a FAULT", due.run(x, text) < -10);
+                due.yes("\"" + text + "\" changes nothing", Seen.sectionOne(x).equals(before));
+                due.is("\"" + text + "\" opens no REGION", x.told(7), 2);
+            }
+        }
     }
 
     private static void theLeastOfTheFaults() {
